@@ -20,7 +20,7 @@ public final class DaysTest {
     }
 
     private static void promise9Borrow() {
-        TreeDebts x = checks.wood("oak 99 10 9;birch 30 5 40");
+        Run x = checks.wood("oak 99 10 9;birch 30 5 40");
         checks.due("borrow(0, 98)", x.borrow(0, 98), 0);
         checks.due("BRANCHES less", x.tree(0, 1), 1);
         checks.due("borrow(1, 30)", x.borrow(1, 30), 1);
@@ -37,25 +37,25 @@ public final class DaysTest {
         checks.refused(x, "borrow(0, 1) of none", () -> x.borrow(0, 1), NOT);
         checks.due("borrow(MAX, MAX)", x.borrow(Integer.MAX_VALUE, Integer.MAX_VALUE), UNKNOWN);
         checks.due("borrow(0, MIN)", x.borrow(0, Integer.MIN_VALUE), OUTSIDE);
-        TreeDebts y = checks.wood("oak 99 10 9");
+        Run y = checks.wood("oak 99 10 9");
         checks.due("borrow(0, 99)", y.borrow(0, 99), 0);
     }
 
     private static void promise9WhoDoesNotLend() {
-        TreeDebts x = checks.wood("oak 9 0 9;oak 9 0 9;oak 9 0 9;quarrel 1 0;part 2 3");
+        Run x = checks.wood("oak 9 0 9;oak 9 0 9;oak 9 0 9;quarrel 1 0;part 2 3");
         checks.due("borrow(0, 4)", x.borrow(0, 4), 0);
         checks.refused(x, "borrow from a CROSS one", () -> x.borrow(1, 1), NOT);
         checks.refused(x, "borrow more than there are", () -> x.borrow(0, 6), NOT);
         x.fire(3);
         checks.refused(x, "borrow from a BURNT one", () -> x.borrow(2, 1), NOT);
-        TreeDebts y = checks.wood("oak 9 0 9;oak 9 0 9");
+        Run y = checks.wood("oak 9 0 9;oak 9 0 9");
         y.sell(0, 1);
         checks.refused(y, "borrow from a SOLD one", () -> y.borrow(0, 1), NOT);
         checks.due("borrow from both's", y.borrow(1, 18), 0);
     }
 
     private static void promise9Full() {
-        TreeDebts x = checks.wood("oak 20 0 9;hollow 1 0 9;hands 1");
+        Run x = checks.wood("oak 20 0 9;hollow 1 0 9;hands 1");
         for (int i = 0; i < 12; i++) checks.due("loan " + i, x.borrow(0, 1), i);
         checks.refused(x, "a 13th", () -> x.borrow(0, 1), FULL);
         checks.refused(x, "a 13th, not so many", () -> x.borrow(0, 9), NOT);
@@ -64,21 +64,21 @@ public final class DaysTest {
     }
 
     private static void promise10Growth() {
-        TreeDebts x = checks.wood("oak 9 7 99;birch 9 7 99;twin 9 7 99;hollow 9 7 99;hands 0");
+        Run x = checks.wood("oak 9 7 99;birch 9 7 99;twin 9 7 99;hollow 9 7 99;hands 0");
         for (int tree = 0; tree < 4; tree++) x.borrow(tree, 3);
         int[][] due = {{321, 343}, {321, 343}, {309, 318}, {321, 342}};
         for (int day = 0; day < 2; day++) {
             checks.due("days(1)", x.days(1), day + 1);
             for (int loan = 0; loan < 4; loan++) checks.due("OWED, cut", x.loan(loan, 2), due[loan][day]);
         }
-        TreeDebts y = checks.wood("twin 9 1 9;oak 9 0 9;hollow 9 0 9;hands 0");
+        Run y = checks.wood("twin 9 1 9;oak 9 0 9;hollow 9 0 9;hands 0");
         for (int tree = 0; tree < 3; tree++) y.borrow(tree, 9);
         y.days(50);
         checks.due("a TWIN of RATE 1 and RATES 0 do not GROW", y.count(6), 2700);
     }
 
     private static void promise10MostOwed() {
-        TreeDebts x = checks.wood("oak 99 50 99;hands 0");
+        Run x = checks.wood("oak 99 50 99;hands 0");
         x.borrow(0, 99);
         x.days(11);
         checks.due("still under it", x.loan(0, 2), 856305);
@@ -86,7 +86,7 @@ public final class DaysTest {
         checks.due("1000000 at most", x.loan(0, 2), 1000000);
         x.days(99);
         checks.due("no more later", x.loan(0, 2), 1000000);
-        TreeDebts y = checks.wood("hollow 99 50 99;hands 0");
+        Run y = checks.wood("hollow 99 50 99;hands 0");
         y.borrow(0, 99);
         for (int i = 0; i < 2; i++) y.days(99);
         checks.due("a HOLLOW's under it", y.loan(0, 2), 990000);
@@ -95,7 +95,7 @@ public final class DaysTest {
     }
 
     private static void promise10Work() {
-        TreeDebts x = checks.wood("oak 9 0 9;oak 9 0 5;oak 9 0 9;birch 9 0 99;hands 4");
+        Run x = checks.wood("oak 9 0 9;oak 9 0 5;oak 9 0 9;birch 9 0 99;hands 4");
         x.borrow(0, 3);
         x.borrow(1, 2);
         x.borrow(2, 3);
@@ -113,17 +113,17 @@ public final class DaysTest {
         x.days(1);
         checks.due("all PAID", x.count(3), 0);
         checks.due("none FAILED", x.count(5), 0);
-        TreeDebts y = checks.wood("oak 9 50 9;hands 99");
+        Run y = checks.wood("oak 9 50 9;hands 99");
         y.borrow(0, 9);
         checks.due("it GROWS ahead of the work", y.all(1, 0), 0);
         y.days(1);
         checks.due("PAID", y.count(3), 0);
-        TreeDebts v = checks.wood("hollow 9 33 9;hands 4");
+        Run v = checks.wood("hollow 9 33 9;hands 4");
         v.borrow(0, 3);
         v.borrow(0, 3);
         v.days(1);
         checks.due("399 of 400 are worked off, and 1 of the next", v.loan(0, 2), 398);
-        TreeDebts z = checks.wood("oak 99 0 9;oak 20 0 9;hands 20");
+        Run z = checks.wood("oak 99 0 9;oak 20 0 9;hands 20");
         z.borrow(1, 20);
         z.sell(1, 0);
         z.days(1);
@@ -131,7 +131,7 @@ public final class DaysTest {
     }
 
     private static void promise10Failing() {
-        TreeDebts x = checks.wood("oak 9 0 2;birch 9 0 9;hands 0");
+        Run x = checks.wood("oak 9 0 2;birch 9 0 9;hands 0");
         x.borrow(0, 1);
         x.borrow(1, 1);
         x.days(1);
@@ -144,19 +144,19 @@ public final class DaysTest {
         checks.due("DAY 2: the OAK's", x.count(5), 2);
         x.days(9);
         checks.due("each once", x.count(5), 2);
-        TreeDebts y = checks.wood("oak 9 0 2;hands 3");
+        Run y = checks.wood("oak 9 0 2;hands 3");
         y.borrow(0, 9);
         y.days(3);
         checks.due("PAID on the DAY on which it is DUE", y.count(5), 0);
         checks.due("none left", y.count(3), 0);
-        TreeDebts z = checks.wood("oak 9 0 1;hands 4");
+        Run z = checks.wood("oak 9 0 1;hands 4");
         z.borrow(0, 9);
         z.days(3);
         checks.due("PAID behind that", z.count(3), 0);
         checks.due("it has FAILED all the same", z.count(5), 1);
         z.borrow(0, 1);
         checks.due("a new LOAN has not FAILED", z.loan(0, 4), 0);
-        TreeDebts v = checks.wood("oak 9 0 9;birch 9 0 9;hands 0");
+        Run v = checks.wood("oak 9 0 9;birch 9 0 9;hands 0");
         v.borrow(0, 1);
         v.borrow(1, 1);
         v.days(2);
@@ -167,7 +167,7 @@ public final class DaysTest {
         v.days(2);
         v.fire(1);
         checks.due("the one that FAILED is one less", v.loan(0, 4), 1);
-        TreeDebts w = checks.wood("oak 9 0 1;part 0 1;hands 0");
+        Run w = checks.wood("oak 9 0 1;part 0 1;hands 0");
         w.borrow(0, 9);
         w.days(2);
         w.fire(1);
@@ -175,7 +175,7 @@ public final class DaysTest {
     }
 
     private static void promise10TheLastDay() {
-        TreeDebts x = checks.wood("oak 9 0 99;hands 0");
+        Run x = checks.wood("oak 9 0 99;hands 0");
         for (int n : new int[] {0, 100, -1, Integer.MIN_VALUE, Integer.MAX_VALUE}) {
             checks.refused(x, "days(" + n + ")", () -> x.days(n), OUTSIDE);
         }
@@ -192,7 +192,7 @@ public final class DaysTest {
     }
 
     private static void promise11Fire() {
-        TreeDebts x = checks.wood("oak 9 0 9;oak 9 0 9;oak 9 0 9;oak 9 0 9;part 1 9;part 2 9;part 3 9;hands 0");
+        Run x = checks.wood("oak 9 0 9;oak 9 0 9;oak 9 0 9;oak 9 0 9;part 1 9;part 2 9;part 3 9;hands 0");
         x.borrow(0, 1);
         x.borrow(1, 2);
         x.borrow(2, 3);
@@ -217,7 +217,7 @@ public final class DaysTest {
     }
 
     private static void promise12Sell() {
-        TreeDebts x = checks.wood("oak 90 0 9;oak 20 0 9;oak 9 0 9;oak 5 0 9;part 3 1");
+        Run x = checks.wood("oak 90 0 9;oak 20 0 9;oak 9 0 9;oak 5 0 9;part 3 1");
         checks.refused(x, "sell(4, 0)", () -> x.sell(4, 0), UNKNOWN);
         checks.refused(x, "sell(0, 4)", () -> x.sell(0, 4), UNKNOWN);
         checks.refused(x, "sell(-1, -1)", () -> x.sell(-1, -1), UNKNOWN);
@@ -244,7 +244,7 @@ public final class DaysTest {
     }
 
     private static void promise12SoldLoans() {
-        TreeDebts x = checks.wood("oak 9 50 7;hollow 2 3 99;twin 4 20 99;hands 0");
+        Run x = checks.wood("oak 9 50 7;hollow 2 3 99;twin 4 20 99;hands 0");
         x.borrow(0, 2);
         x.days(1);
         checks.due("OWED ahead", x.loan(0, 2), 300);
@@ -265,7 +265,7 @@ public final class DaysTest {
     }
 
     private static void promise13And14KeepAndBack() {
-        TreeDebts x = checks.wood("oak 9 10 2;oak 9 10 2;oak 9 10 2;part 2 1;quarrel 0 1;hands 1");
+        Run x = checks.wood("oak 9 10 2;oak 9 10 2;oak 9 10 2;part 2 1;quarrel 0 1;hands 1");
         checks.refused(x, "keep(2)", () -> x.keep(2), UNKNOWN);
         checks.refused(x, "keep(-1)", () -> x.keep(-1), UNKNOWN);
         checks.refused(x, "back(2)", () -> x.back(2), UNKNOWN);
@@ -276,25 +276,25 @@ public final class DaysTest {
         x.days(3);
         checks.due("keep(0)", x.keep(0), 3);
         checks.refused(x, "back(1) of nothing, 0 being kept", () -> x.back(1), NOT);
-        String atThree = Checks.look(x);
+        String atThree = x.now();
         x.sell(1, 0);
         x.fire(1);
         x.borrow(0, 3);
         x.days(4);
         checks.due("keep(1)", x.keep(1), 7);
-        String atSeven = Checks.look(x);
+        String atSeven = x.now();
         x.days(20);
         checks.due("back(0)", x.back(0), 3);
-        checks.holds("as it was at 3", Checks.look(x).equals(atThree));
+        checks.holds("as it was at 3", x.now().equals(atThree));
         x.days(20);
         checks.due("back(0) again", x.back(0), 3);
-        checks.holds("as it was at 3, again", Checks.look(x).equals(atThree));
+        checks.holds("as it was at 3, again", x.now().equals(atThree));
         checks.due("back(1)", x.back(1), 7);
-        checks.holds("as it was at 7", Checks.look(x).equals(atSeven));
+        checks.holds("as it was at 7", x.now().equals(atSeven));
         checks.due("keep(0) anew", x.keep(0), 7);
         x.days(1);
         checks.due("back(0) anew", x.back(0), 7);
-        Checks.write(x, "hands 9");
+        x.writeText("hands 9");
         checks.due("back(1) leaves THE TEXT", x.back(1), 7);
         checks.due("bytes", x.count(7), 7);
         x.erase();

@@ -19,8 +19,8 @@ public final class ForetoldTest {
         checks.end();
     }
 
-    private static TreeDebts threeLoans() {
-        TreeDebts x = checks.wood("oak 9 10 2;birch 9 0 9;hollow 9 5 9;hands 1");
+    private static Run threeLoans() {
+        Run x = checks.wood("oak 9 10 2;birch 9 0 9;hollow 9 5 9;hands 1");
         x.borrow(0, 2);
         x.borrow(1, 1);
         x.borrow(2, 3);
@@ -28,8 +28,8 @@ public final class ForetoldTest {
     }
 
     private static void promise15Later() {
-        TreeDebts x = threeLoans();
-        String before = Checks.look(x);
+        Run x = threeLoans();
+        String before = x.now();
         int[][] due = {{200, 100, 300}, {220, 0, 315}, {142, 0, 330}, {56, 0, 345}, {0, 0, 321}};
         for (int t = 0; t < 5; t++) {
             for (int tree = 0; tree < 3; tree++) {
@@ -37,7 +37,7 @@ public final class ForetoldTest {
             }
         }
         checks.due("later(2, 99)", x.later(2, 99), 0);
-        checks.holds("nothing changes", Checks.look(x).equals(before));
+        checks.holds("nothing changes", x.now().equals(before));
         checks.refused(x, "later(3, 0)", () -> x.later(3, 0), UNKNOWN);
         checks.refused(x, "later(-1, 100)", () -> x.later(-1, 100), UNKNOWN);
         checks.refused(x, "later(0, 100)", () -> x.later(0, 100), OUTSIDE);
@@ -45,21 +45,21 @@ public final class ForetoldTest {
     }
 
     private static void promise16All() {
-        TreeDebts x = threeLoans();
-        String before = Checks.look(x);
+        Run x = threeLoans();
+        String before = x.now();
         int[] owed = {600, 535, 472, 401, 321, 236, 151, 66, 0, 0};
         for (int t = 0; t < 10; t++) checks.due("all(" + t + ", 0)", x.all(t, 0), owed[t]);
         checks.due("all(2, 1)", x.all(2, 1), 0);
         checks.due("all(3, 1): the OAK's", x.all(3, 1), 1);
         checks.due("all(99, 1)", x.all(99, 1), 1);
         checks.due("all(99, 0)", x.all(99, 0), 0);
-        checks.holds("nothing changes", Checks.look(x).equals(before));
+        checks.holds("nothing changes", x.now().equals(before));
         x.days(5);
         checks.due("all(0, 1): since the last text", x.all(0, 1), 1);
         for (int[] bad : new int[][] {{100, 0}, {-1, 0}, {0, 2}, {0, -1}, {MIN, 0}, {0, MAX}}) {
             checks.refused(x, "all(" + bad[0] + ", " + bad[1] + ")", () -> x.all(bad[0], bad[1]), OUTSIDE);
         }
-        TreeDebts y = checks.wood("oak 9 0 1;hands 0");
+        Run y = checks.wood("oak 9 0 1;hands 0");
         y.borrow(0, 1);
         y.days(2);
         y.borrow(0, 1);
@@ -67,20 +67,20 @@ public final class ForetoldTest {
     }
 
     private static void promise17Clear() {
-        TreeDebts x = threeLoans();
+        Run x = threeLoans();
         checks.due("clear()", x.clear(), 8);
         checks.due("nothing changes", x.count(3), 3);
         x.days(8);
         checks.due("clear() then", x.clear(), 0);
-        TreeDebts y = checks.wood("oak 99 1 9;hands 0");
+        Run y = checks.wood("oak 99 1 9;hands 0");
         checks.due("no LOANS", y.clear(), 0);
         y.borrow(0, 1);
         checks.due("HANDS 0", y.clear(), NONE);
         // A DAY takes 100 and brings one for each BRANCH of the HOLLOW.
-        TreeDebts z = checks.wood("hollow 99 1 9;hands 1");
+        Run z = checks.wood("hollow 99 1 9;hands 1");
         z.borrow(0, 90);
         checks.due("9000 at 10 a DAY: 900", z.clear(), 900);
-        TreeDebts w = checks.wood("hollow 99 1 9;hands 1");
+        Run w = checks.wood("hollow 99 1 9;hands 1");
         w.borrow(0, 91);
         checks.due("9100 at 9 a DAY: above 999", w.clear(), NONE);
         w.days(12);
@@ -90,8 +90,8 @@ public final class ForetoldTest {
     }
 
     private static void promise18Hut() {
-        TreeDebts x = checks.wood("oak 10 10 9;hollow 10 12 9;twin 10 30 9");
-        String before = Checks.look(x);
+        Run x = checks.wood("oak 10 10 9;hollow 10 12 9;twin 10 30 9");
+        String before = x.now();
         checks.due("one BRANCH", x.hut(1, 1, NONE), 110);
         checks.due("of RATE 10 alone", x.hut(10, 1, NONE), 1100);
         checks.due("then 12", x.hut(12, 1, NONE), 1324);
@@ -104,7 +104,7 @@ public final class ForetoldTest {
         checks.due("all of them", x.hut(30, 0, NONE), 3000);
         checks.due("more than there are", x.hut(31, 0, NONE), NONE);
         checks.due("more than there are, from one", x.hut(31, 0, 2), NONE);
-        checks.holds("nothing changes", Checks.look(x).equals(before));
+        checks.holds("nothing changes", x.now().equals(before));
         for (int[] bad : new int[][] {{0, 0}, {100, 0}, {1, -1}, {1, 31}, {MIN, 0}, {1, MAX}}) {
             checks.refused(x, "hut(" + bad[0] + ", " + bad[1] + ", NONE)", () -> x.hut(bad[0], bad[1], NONE), OUTSIDE);
             checks.refused(x, "hut(" + bad[0] + ", " + bad[1] + ", 0)", () -> x.hut(bad[0], bad[1], 0), OUTSIDE);
@@ -113,18 +113,18 @@ public final class ForetoldTest {
         checks.refused(x, "hut(1, 0, 3)", () -> x.hut(1, 0, 3), UNKNOWN);
         checks.refused(x, "hut(1, 0, -2)", () -> x.hut(1, 0, -2), UNKNOWN);
         checks.refused(x, "hut(31, 0, 3)", () -> x.hut(31, 0, 3), UNKNOWN);
-        TreeDebts z = checks.wood("oak 20 6 9;oak 20 5 9;oak 20 4 9;oak 20 3 9;oak 20 2 9;oak 20 1 9");
+        Run z = checks.wood("oak 20 6 9;oak 20 5 9;oak 20 4 9;oak 20 3 9;oak 20 2 9;oak 20 1 9");
         int[] six = {0, 19, 20, 20, 20, 20};
         checks.due("99 from six TREES", z.hut(99, 1, NONE), 1995 + 2080 + 2060 + 2040 + 2020);
         for (int tree = 0; tree < 6; tree++) checks.due("of them from " + tree, z.hut(99, 1, tree), six[tree]);
         checks.due("all 120 of them", z.grandson(0), 120);
-        TreeDebts y = checks.wood("oak 99 50 9;twin 99 50 9");
+        Run y = checks.wood("oak 99 50 9;twin 99 50 9");
         checks.due("OWED is 1000000 at most in a HUT", y.hut(99, 30, NONE), 1000000);
         checks.due("so that all from one is least", y.hut(99, 30, 1), 99);
     }
 
     private static void promise18WhoLends() {
-        TreeDebts x = checks.wood("oak 9 1 9;oak 9 2 9;oak 9 3 9;oak 9 4 9;oak 9 5 9;quarrel 0 4;part 1 1");
+        Run x = checks.wood("oak 9 1 9;oak 9 2 9;oak 9 3 9;oak 9 4 9;oak 9 5 9;quarrel 0 4;part 1 1");
         x.borrow(4, 1);
         x.fire(1);
         x.sell(2, 3);
@@ -133,18 +133,18 @@ public final class ForetoldTest {
         for (int tree = 0; tree < 5; tree++) checks.due("from " + tree, x.hut(20, 1, tree), due[tree]);
         checks.due("so many at most", x.hut(26, 1, 4), 8);
         checks.due("and no more", x.hut(27, 1, NONE), NONE);
-        TreeDebts y = checks.wood("oak 20 0 9;hands 0");
+        Run y = checks.wood("oak 20 0 9;hands 0");
         for (int i = 0; i < 12; i++) y.borrow(0, 1);
         checks.due("LENDING does not look at how many LOANS there are", y.hut(8, 0, NONE), 800);
     }
 
     private static void promise18LikeRows() {
-        TreeDebts x = checks.wood("oak 5 0 9;oak 5 0 9;oak 5 0 9");
+        Run x = checks.wood("oak 5 0 9;oak 5 0 9;oak 5 0 9");
         checks.due("less of the first", x.hut(7, 30, 0), 0);
         checks.due("less of the second", x.hut(7, 30, 1), 2);
         checks.due("the rest", x.hut(7, 30, 2), 5);
         // One BRANCH of RATE 3 loses more by the cut: 136 in 12 DAYS, but 2 together 279.
-        TreeDebts y = checks.wood("oak 9 3 9;oak 9 3 9");
+        Run y = checks.wood("oak 9 3 9;oak 9 3 9");
         checks.due("2 together: 200, 206, 212, 218, 224", y.hut(2, 4, NONE), 224);
         checks.due("from the second", y.hut(2, 4, 1), 2);
         checks.due("split where the cut is worth it", y.hut(2, 12, NONE), 272);
@@ -152,7 +152,7 @@ public final class ForetoldTest {
     }
 
     private static void promise19Enough() {
-        TreeDebts x = checks.wood("oak 99 0 4;birch 9 0 9;hands 0");
+        Run x = checks.wood("oak 99 0 4;birch 9 0 9;hands 0");
         x.borrow(0, 9);
         x.borrow(1, 5);
         checks.due("ahead of the first DUE", x.enough(1), 0);
@@ -163,7 +163,7 @@ public final class ForetoldTest {
         x.days(2);
         checks.due("one FAILED already: it stands first, 1400 in 3 DAYS", x.enough(3), 5);
         checks.due("till the next is DUE", x.enough(2), 0);
-        TreeDebts y = checks.wood("birch 99 0 9;birch 99 0 9;birch 1 0 9;hands 5");
+        Run y = checks.wood("birch 99 0 9;birch 99 0 9;birch 1 0 9;hands 5");
         y.borrow(0, 99);
         y.borrow(1, 99);
         checks.due("all 99", y.enough(2), 99);
@@ -173,14 +173,14 @@ public final class ForetoldTest {
         checks.refused(y, "enough(0)", () -> y.enough(0), OUTSIDE);
         checks.refused(y, "enough(100)", () -> y.enough(100), OUTSIDE);
         checks.refused(y, "enough(-1)", () -> y.enough(-1), OUTSIDE);
-        TreeDebts v = checks.wood("birch 99 0 9;hands 5");
+        Run v = checks.wood("birch 99 0 9;hands 5");
         for (int hands = 1; hands <= 12; hands++) {
             v.keep(0);
             v.borrow(0, 2 * hands);
             checks.due("just " + hands, v.enough(2), hands);
             v.back(0);
         }
-        TreeDebts z = checks.wood("oak 9 0 99;hands 5");
+        Run z = checks.wood("oak 9 0 99;hands 5");
         z.borrow(0, 9);
         checks.due("99 DAYS: not DUE in them", z.enough(99), 0);
         z.days(1);
@@ -188,7 +188,7 @@ public final class ForetoldTest {
     }
 
     private static void promise20Rid() {
-        TreeDebts x = checks.wood("oak 9 0 9;oak 9 0 9;oak 9 0 9;oak 9 0 9;part 0 1;part 1 1;part 2 5;part 3 9");
+        Run x = checks.wood("oak 9 0 9;oak 9 0 9;oak 9 0 9;oak 9 0 9;part 0 1;part 1 1;part 2 5;part 3 9");
         checks.due("no LOANS: 1 of", x.rid(0, 0), 1);
         checks.due("no LOANS: 1", x.rid(0, 1), 1);
         x.borrow(0, 1);
@@ -213,7 +213,7 @@ public final class ForetoldTest {
         for (int[] bad : new int[][] {{11, 0}, {-1, 0}, {0, 2}, {0, -1}, {MIN, 0}, {0, MAX}}) {
             checks.refused(x, "rid(" + bad[0] + ", " + bad[1] + ")", () -> x.rid(bad[0], bad[1]), OUTSIDE);
         }
-        TreeDebts y = checks.wood("oak 1 0 9;oak 1 0 9;oak 1 0 9;oak 1 0 9;oak 1 0 9;oak 1 0 9;part 1 1;part 2 2;part 3 3");
+        Run y = checks.wood("oak 1 0 9;oak 1 0 9;oak 1 0 9;oak 1 0 9;oak 1 0 9;oak 1 0 9;part 1 1;part 2 2;part 3 3");
         checks.tell(y, "part 4 4;part 5 5", 2);
         for (int tree = 0; tree < 6; tree++) y.borrow(tree, 1);
         checks.due("six PARTS: 531441 of", y.rid(9, 0), 531441);
@@ -221,7 +221,7 @@ public final class ForetoldTest {
     }
 
     private static void promise21Grandson() {
-        TreeDebts x = checks.wood("oak 9 0 2;birch 8 0 9;hollow 7 0 9;oak 6 0 9;part 3 1;hands 1");
+        Run x = checks.wood("oak 9 0 2;birch 8 0 9;hollow 7 0 9;oak 6 0 9;part 3 1;hands 1");
         x.borrow(0, 2);
         x.borrow(1, 1);
         x.borrow(3, 2);
@@ -242,7 +242,7 @@ public final class ForetoldTest {
     }
 
     private static void promise22ToWhom() {
-        TreeDebts x = checks.wood("oak 1 10 9;birch 1 10 9;twin 1 20 9;hollow 1 10 9;oak 0 50 9;oak 0 11 9;part 1 3");
+        Run x = checks.wood("oak 1 10 9;birch 1 10 9;twin 1 20 9;hollow 1 10 9;oak 0 50 9;oak 0 11 9;part 1 3");
         checks.due("0 DAYS ago: all", x.toWhom(99, 0, 9900), 63);
         checks.due("1 DAY ago", x.toWhom(5, 1, 550), 15);
         checks.due("2 DAYS ago", x.toWhom(5, 2, 605), 7);
@@ -264,10 +264,10 @@ public final class ForetoldTest {
     }
 
     private static void promise23Count() {
-        TreeDebts x = checks.wood("oak 9 10 1;birch 9 10 9;twin 9 9 9;quarrel 0 1;quarrel 0 2;hands 2");
+        Run x = checks.wood("oak 9 10 1;birch 9 10 9;twin 9 9 9;quarrel 0 1;quarrel 0 2;hands 2");
         x.borrow(0, 7);
         x.days(3);
-        Checks.write(x, "wood;oak 1");
+        x.writeText("wood;oak 1");
         int[] due = {3, 2, 2, 1, 3, 1, 269, 10};
         x.count(6);
         for (int what = 0; what < 8; what++) checks.due("count(" + what + ")", x.count(what), due[what]);

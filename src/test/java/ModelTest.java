@@ -17,14 +17,19 @@ public final class ModelTest {
     private static int wrong = 0;
     private static int done = 0;
 
+    /** Calls of this run: each answer that is looked at is one. */
+    private int calls = 0;
+
     public static void main(String[] args) {
-        for (int run = 0; run < 1500 && wrong < 20; run++) new ModelTest(run).go();
+        for (int run = 0; run < 12000 && wrong < 20; run++) new ModelTest(run).go();
         System.out.println(done + " answers looked at, " + wrong + " not as due");
         if (wrong != 0) System.exit(1);
     }
 
     private void due(String call, int got, int want) {
         done++;
+        calls++;
+        if (calls > Run.MOST_CALLS) throw new IllegalStateException("run " + run + " makes a 513th call");
         if (got == want) return;
         wrong++;
         System.out.println("run " + run + ": " + call + " answered " + got + ", the model " + want);
@@ -51,14 +56,16 @@ public final class ModelTest {
 
     private void go() {
         tellWood(true);
-        for (int call = 0; call < 120; call++) {
+        // No step, with the look behind it, takes as many as 210 calls.
+        while (calls <= Run.MOST_CALLS - 210) {
             int kind = chance.nextInt(100);
             if (kind < 4) tellWood(false);
             else if (kind < 7) scribble();
             else if (kind < 30) borrow();
             else if (kind < 60) days();
             else foretell();
-            lookAtAll();
+            if (chance.nextInt(4) == 0) lookAtAll();
+            else lookAround();
         }
     }
 
@@ -185,6 +192,17 @@ public final class ModelTest {
         boolean fits = tree >= 0 && tree < model.trees.size() && b > 0 && b < 100 && t >= 0 && t < 31;
         int v = fits && chance.nextInt(5) > 0 ? (int) model.trees.get(tree).grown(b, t) : around(0, 1000000);
         due("toWhom(" + b + ", " + t + ", " + v + ")", x.toWhom(b, t, v), model.toWhom(b, t, v));
+    }
+
+    private void lookAround() {
+        int what = around(0, 7);
+        due("count(" + what + ")", x.count(what), model.count(what));
+        int tree = aTree();
+        due("tree(" + tree + ", " + what + ")", x.tree(tree, what), model.tree(tree, what));
+        int kind = around(0, 4);
+        due("as(" + tree + ", " + kind + ")", x.as(tree, kind), model.as(tree, kind));
+        int loan = around(0, Math.max(0, model.loans.size() - 1));
+        due("loan(" + loan + ", " + kind + ")", x.loan(loan, kind), model.loan(loan, kind));
     }
 
     private void lookAtAll() {

@@ -21,7 +21,7 @@ public final class ToldTest {
     }
 
     private static void promise1NewObject() {
-        TreeDebts x = new TreeDebts();
+        Run x = new Run();
         int[] due = {0, 0, 5, 0, 0, 0, 0, 0};
         for (int what = 0; what < 8; what++) checks.due("new: count(" + what + ")", x.count(what), due[what]);
         checks.due("new: tree(0, 0)", x.tree(0, 0), UNKNOWN);
@@ -33,7 +33,7 @@ public final class ToldTest {
     }
 
     private static void promise2Write() {
-        TreeDebts x = new TreeDebts();
+        Run x = new Run();
         for (int n : new int[] {0, 9, -1, Integer.MIN_VALUE, Integer.MAX_VALUE}) {
             checks.refused(x, "write(0, " + n + ")", () -> x.write(0, n), OUTSIDE);
         }
@@ -55,15 +55,15 @@ public final class ToldTest {
         checks.refused(x, "write of 1 to 201", () -> x.write(0, 1), FULL);
         checks.due("erase() of 200", x.erase(), 200);
         checks.due("write behind erase", x.write(0, 8), 8);
-        TreeDebts y = new TreeDebts();
-        Checks.write(y, " ".repeat(192) + "wood   ;");
+        Run y = new Run();
+        y.writeText(" ".repeat(192) + "wood   ;");
         checks.due("a ; as the last byte of 200", y.fault(), 200);
     }
 
     private static void promise3Erase() {
-        TreeDebts x = checks.wood("oak 1 1 1");
+        Run x = checks.wood("oak 1 1 1");
         checks.due("erase() of none", x.erase(), 0);
-        Checks.write(x, "wood;oak");
+        x.writeText("wood;oak");
         checks.due("erase()", x.erase(), 8);
         checks.due("count(7)", x.count(7), 0);
         checks.due("erase() again", x.erase(), 0);
@@ -72,7 +72,7 @@ public final class ToldTest {
     }
 
     private static void promise4FaultsOfWordsAndSigns() {
-        TreeDebts x = new TreeDebts();
+        Run x = new Run();
         checks.fault(x, "", 0);
         checks.fault(x, "   ", 3);
         checks.fault(x, "wood", NONE);
@@ -118,7 +118,7 @@ public final class ToldTest {
     }
 
     private static void promise4FaultsOfNumbers() {
-        TreeDebts x = new TreeDebts();
+        Run x = new Run();
         checks.fault(x, "oak 0 0 1", NONE);
         checks.fault(x, "oak 00 00 01", NONE);
         checks.fault(x, "oak 99 50 99", NONE);
@@ -143,7 +143,7 @@ public final class ToldTest {
     }
 
     private static void promise4FaultsOfTreesAndQuarrels() {
-        TreeDebts x = new TreeDebts();
+        Run x = new Run();
         String six = "oak 1 1 1;birch 1 1 1;twin 1 1 1;hollow 1 1 1;oak 1 1 1;oak 1 1 1";
         checks.fault(x, six, NONE);
         checks.fault(x, six + ";oak 1 1 1", six.length() + 1);
@@ -179,7 +179,7 @@ public final class ToldTest {
     }
 
     private static void promise4Lines() {
-        TreeDebts x = new TreeDebts();
+        Run x = new Run();
         String twelve = "wood" + ";wood".repeat(11);
         checks.fault(x, twelve, NONE);
         checks.fault(x, twelve + "  ", NONE);
@@ -190,7 +190,7 @@ public final class ToldTest {
     }
 
     private static void promise5Wood() {
-        TreeDebts x = new TreeDebts();
+        Run x = new Run();
         checks.refused(x, "wood() of no TEXT", x::wood, NOT);
         checks.tell(x, "hands 7", 1);
         checks.due("hands told", x.count(2), 7);
@@ -202,7 +202,7 @@ public final class ToldTest {
         checks.due("one more tree", x.count(0), 3);
         checks.due("the earlier one stays", x.tree(0, 4), 8);
         checks.due("the new one", x.tree(2, 0), 2);
-        Checks.write(x, "wood;oak 1 1 1;ivy");
+        x.writeText("wood;oak 1 1 1;ivy");
         checks.refused(x, "wood() with a FAULT", x::wood, NOT);
         checks.due("THE TEXT stays", x.erase(), 18);
         checks.tell(x, "part 0 1;hands 1;hands 2;part 0 3", 4);
@@ -219,7 +219,7 @@ public final class ToldTest {
     }
 
     private static void promise5WhatStaysAndWhatGoes() {
-        TreeDebts x = checks.wood("oak 9 9 1;oak 8 9 1;oak 7 9 1;part 2 4;hands 0");
+        Run x = checks.wood("oak 9 9 1;oak 8 9 1;oak 7 9 1;part 2 4;hands 0");
         x.borrow(0, 4);
         x.borrow(2, 1);
         x.days(3);
@@ -240,7 +240,7 @@ public final class ToldTest {
     }
 
     private static void promise6Tree() {
-        TreeDebts x = checks.wood("oak 20 10 9;birch 30 5 40;twin 15 21 3;hollow 9 7 6;part 1 2;part 2 7");
+        Run x = checks.wood("oak 20 10 9;birch 30 5 40;twin 15 21 3;hollow 9 7 6;part 1 2;part 2 7");
         int[][] due = {{0, 20, 10, 9, 0, 0, 0, 0}, {1, 30, 5, 40, 2, 0, 0, 0}, {2, 15, 21, 3, 7, 0, 0, 0},
             {3, 9, 7, 6, 0, 0, 0, 0}};
         for (int tree = 0; tree < 4; tree++) {
@@ -269,7 +269,7 @@ public final class ToldTest {
     }
 
     private static void promise6Cross() {
-        TreeDebts x = checks.wood("oak 9 0 9;oak 9 0 9;oak 9 0 9;quarrel 0 1;quarrel 2 0;part 2 1;hands 0");
+        Run x = checks.wood("oak 9 0 9;oak 9 0 9;oak 9 0 9;quarrel 0 1;quarrel 2 0;part 2 1;hands 0");
         x.borrow(1, 2);
         checks.due("0 quarrels with one OWED more", x.tree(0, 7), 1);
         checks.due("1 itself is not", x.tree(1, 7), 0);
@@ -281,10 +281,10 @@ public final class ToldTest {
         checks.due("0 is still CROSS with 2", x.tree(0, 7), 1);
         x.fire(1);
         checks.due("what was OWED is burnt", x.tree(0, 7), 0);
-        TreeDebts y = checks.wood("oak 9 0 9;oak 9 0 9;quarrel 0 1;hands 0");
+        Run y = checks.wood("oak 9 0 9;oak 9 0 9;quarrel 0 1;hands 0");
         y.borrow(0, 1);
         checks.due("1 is CROSS", y.tree(1, 7), 1);
-        TreeDebts z = checks.wood("birch 9 0 9;oak 9 0 9;oak 1 0 1;quarrel 0 1;hands 1");
+        Run z = checks.wood("birch 9 0 9;oak 9 0 9;oak 1 0 1;quarrel 0 1;hands 1");
         z.borrow(2, 1);
         z.sell(2, 1);
         checks.due("0 is CROSS with 1, OWED by a sale", z.tree(0, 7), 1);
@@ -293,7 +293,7 @@ public final class ToldTest {
     }
 
     private static void promise7Loan() {
-        TreeDebts x = checks.wood("oak 20 10 9;birch 30 5 40;hollow 9 7 2;hands 1");
+        Run x = checks.wood("oak 20 10 9;birch 30 5 40;hollow 9 7 2;hands 1");
         x.days(3);
         x.borrow(0, 4);
         x.borrow(1, 7);
@@ -320,7 +320,7 @@ public final class ToldTest {
     }
 
     private static void promise8As() {
-        TreeDebts x = checks.wood("oak 20 11 9;birch 30 13 40;twin 15 21 3;hollow 9 7 6");
+        Run x = checks.wood("oak 20 11 9;birch 30 13 40;twin 15 21 3;hollow 9 7 6");
         int[][] due = {{111, 111, NOT, NOT, NOT}, {113, 113, 113, NOT, NOT}, {110, 110, NOT, 110, NOT},
             {107, NOT, NOT, NOT, 107}};
         for (int tree = 0; tree < 4; tree++) {
