@@ -593,7 +593,7 @@ public final class BoundsOfCallsTest {
     }
 
     private static void foretoldBehindTheLastDay() {
-        checks.sentence("FULL: above DAY 9999 is of days alone");
+        checks.sentence("FORETOLD .. in t DAYS (0 .. 99): FULL is named by days alone");
         Run x = onDay(9999);
         x.borrow(0, 1);
         checks.due("later(0, 99)", x.later(0, 99), 199);

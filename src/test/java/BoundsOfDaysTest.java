@@ -358,6 +358,11 @@ public final class BoundsOfDaysTest {
         checks.due("2 are worked off: it goes", x.count(3), 1);
         checks.due("98 for the next", x.loan(0, 2), 2);
         checks.due("which it is", x.loan(0, 0), 1);
+        Run one = checks.wood("hollow 9 33 9;oak 9 0 9;hands 4");
+        one.borrow(0, 3);
+        one.borrow(1, 1);
+        one.days(1);
+        checks.due("399 of 400: the last hundredth is for the next", one.loan(0, 2), 99);
         Run y = checks.wood("oak 9 0 9;hands 3");
         for (int i = 0; i < 3; i++) y.borrow(0, 1);
         y.days(1);

@@ -76,7 +76,7 @@ public final class BoundsOfTextTest {
     }
 
     private static void seventhTreeBehindEarlierTexts() {
-        checks.sentence("6 at most, those of earlier texts too");
+        checks.sentence("6 at most .. what earlier texts told stays");
         Run x = checks.wood(treesOf(5));
         checks.fault(x, "oak 1 1 1", NONE);
         checks.fault(x, "oak 1 1 1;twin 1 1 1", 10);
@@ -262,6 +262,9 @@ public final class BoundsOfTextTest {
             checks.fault(x, "a" + line, 0);
             checks.fault(x, line.substring(1), 0);
             checks.fault(x, words[i].substring(0, words[i].length() - 1) + numbers[i], 0);
+            for (int at = 0; at < words[i].length(); at++) {
+                checks.fault(x, line.substring(0, at) + "x" + line.substring(at + 1), 0);
+            }
             checks.fault(x, Character.toUpperCase(line.charAt(0)) + line.substring(1), 0);
             if (i > 0) checks.fault(x, line.substring(0, line.length() - 2), line.length() - 2);
             if (i > 0) checks.fault(x, words[i] + " wood", words[i].length() + 1);
