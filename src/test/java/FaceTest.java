@@ -5,6 +5,8 @@ import java.lang.reflect.Method;
 import java.lang.reflect.Modifier;
 import java.nio.file.Files;
 import java.nio.file.Path;
+import java.util.ArrayList;
+import java.util.List;
 import java.util.Set;
 import java.util.TreeSet;
 import java.util.regex.Matcher;
@@ -21,6 +23,7 @@ public final class FaceTest {
     public static void main(String[] args) throws IOException {
         constants();
         members();
+        sizes();
         words();
         checks.end();
     }
@@ -57,10 +60,35 @@ public final class FaceTest {
         Constructor<?>[] made = face.getDeclaredConstructors();
         checks.holds("one public constructor", made.length == 1 && made[0].getParameterCount() == 0
             && Modifier.isPublic(made[0].getModifiers()));
+        for (Method m : face.getDeclaredMethods()) {
+            checks.holds(m + ": no private method bears a name of the face",
+                !Modifier.isPrivate(m.getModifiers()) || !names.contains(m.getName()));
+        }
         for (Class<?> inside : face.getDeclaredClasses()) {
             checks.holds(inside + " is static", Modifier.isStatic(inside.getModifiers()));
             for (Method m : inside.getDeclaredMethods()) {
                 checks.holds(m + " bears no name of the face", !names.contains(m.getName()));
+            }
+        }
+    }
+
+    /** Rule 11, as far as it can be seen without the bodies of methods; rules 3 and 5 for fields. */
+    private static void sizes() {
+        List<Class<?>> classes = new ArrayList<>(List.of(TreeDebts.class.getDeclaredClasses()));
+        classes.add(TreeDebts.class);
+        checks.holds("twelve classes at most", classes.size() <= 12);
+        for (Class<?> c : classes) {
+            int fields = 0;
+            for (Field f : c.getDeclaredFields()) {
+                if (!Modifier.isStatic(f.getModifiers())) fields++;
+                else checks.holds(f + ": static fields are final constants", Modifier.isFinal(f.getModifiers())
+                    && (f.getType() == int.class || f.getType() == int[].class));
+                checks.holds(f + ": arrays of two dimensions hold numbers",
+                    !f.getType().getName().matches("\\[\\[(\\[|L|Z).*"));
+            }
+            checks.holds(c + ": twenty fields at most", fields <= 20);
+            for (Method m : c.getDeclaredMethods()) {
+                checks.holds(m + ": seven parameters at most", m.getParameterCount() <= 7);
             }
         }
     }
@@ -72,5 +100,11 @@ public final class FaceTest {
         Matcher m = Pattern.compile("\\b(throw|throws|try|catch|synchronized|assert|import|package|protected)\\b|->|::")
             .matcher(bare);
         checks.holds("no word that LANGUAGE.md rules out", !m.find());
+        Matcher library = Pattern.compile("\\b(System|Math|Integer|Long|Arrays|List|Character|String|Object)\\.(\\w+)")
+            .matcher(bare);
+        while (library.find()) {
+            checks.holds(library.group() + " is of the library that LANGUAGE.md lists",
+                library.group().matches("System.arraycopy|Math.(min|max|abs)|Integer.(bitCount|compare|max|min)"));
+        }
     }
 }
